@@ -5,6 +5,7 @@ public final class LooksTest {
         testTrace();
         testPointOf();
         testCount();
+        testCountAtEachPoint();
         testOvershoot();
         Due.end("LooksTest");
     }
@@ -104,6 +105,35 @@ public final class LooksTest {
         for (int what = 0; what < due.length; what++) {
             Due.is("count(" + what + ")", due[what], gears.count(what));
         }
+    }
+
+    /** With each amplitude the wave at one point, the trace is 8 times as much there, and 0 at all others. */
+    private static void testCountAtEachPoint() {
+        for (int point = 0; point < 8; point++) {
+            SquareGears gears = Make.gears(5, 5, 5, 5, 5, 5, 5, 5);
+            gears.turn(point);
+            Due.is("the greatest trace, at " + point, 40, gears.count(2));
+            Due.is("the least trace beside " + point, 0, gears.count(3));
+            Due.is("the greatest difference, at " + point, 40, gears.count(4));
+            gears = Make.gears(-5, -5, -5, -5, -5, -5, -5, -5);
+            gears.turn(point);
+            Due.is("the greatest trace beside " + point, 0, gears.count(2));
+            Due.is("the least trace, at " + point, -40, gears.count(3));
+            gears.copy();
+            gears.point(point, 9999);
+            Due.is("the greatest difference, at " + point, 10039, gears.count(4));
+            isJumpFound(point);
+        }
+    }
+
+    /** The pattern is fitted so that just the jump behind one point is as great as 48. */
+    private static void isJumpFound(int point) {
+        SquareGears gears = Make.withPattern(new SquareGears(), 0, 0, 0, 0, 0, 0, 0, 0);
+        gears.point(point, -24);
+        gears.point((point + 1) % 8, 24);
+        gears.fit();
+        Due.is("the jump behind " + point, 48, gears.pointOf(point, 2));
+        Due.is("the greatest jump, behind " + point, 48, gears.count(5));
     }
 
     private static void testOvershoot() {

@@ -93,6 +93,10 @@ public final class TextsTest {
         loads("a=-12;a=0", 0, 0);
         loads("a=12;b!", 1, 12);
         loads("a!", 0, 0);
+        loadsOfLast(new SquareGears(), "h=3", 1, 3);
+        loadsOfLast(Make.gears(1, 2, 3), "h!", 0, 0, 7);
+        loadsOfLast(new SquareGears(), "h!;h!", 0, 0, 7);
+        loadsOfLast(new SquareGears(), "h=-8;h!;h=-9;h!", 1, -9, 7);
         loads("a=0", 0, 0);
     }
 
@@ -101,6 +105,12 @@ public final class TextsTest {
         Due.is("load() of " + text, due, gears.load());
         Make.areAmplitudes("load of " + text, gears, first, 0, 0, 0, 0, 0, 0, 0);
         Due.is("load() of " + text + " is saved", 3, gears.count(8));
+    }
+
+    private static void loadsOfLast(SquareGears gears, String text, int due, int last, int... lost) {
+        Due.is("load() of " + text, due, Make.withText(gears, text).load());
+        Make.areAmplitudes("load of " + text, gears, 0, 0, 0, 0, 0, 0, 0, last);
+        Make.areLost("load of " + text, gears, lost);
     }
 
     private static void testLoadOfWrongTexts() {

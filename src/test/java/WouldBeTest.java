@@ -63,6 +63,11 @@ public final class WouldBeTest {
         isEnough(gears, 911, 1);
         isEnough(gears, 912, 0);
         isEnough(new SquareGears(), 0, 0);
+        gears = Make.gears(2, 1, 1, 1, 1, 1, 1, 10);
+        isEnough(gears, 48, 2);
+        isEnough(gears, 79, 2);
+        isEnough(gears, 80, 1);
+        isEnough(gears, 879, 1);
         gears = Make.gears(99, -99, 99, -99, 99, -99, 99, -99);
         isEnough(gears, 78407, 8);
         isEnough(gears, 78408, 7);
@@ -118,6 +123,14 @@ public final class WouldBeTest {
         Due.is("bestTurn() of a new object", 0, new SquareGears().bestTurn());
         SquareGears gears = Make.withPattern(Make.gears(0, 0, 5), -5, -5, 5, 5, -5, -5, 5, 5);
         Due.is("bestTurn() of several", 2, gears.bestTurn());
+        for (int point = 0; point < 8; point++) {
+            gears = Make.gears(5, 5, 5, 5, 5, 5, 5, 5);
+            gears.turn(3);
+            gears.point(point, 40);
+            Due.is("bestTurn() to the point " + point, point ^ 3, gears.bestTurn());
+            gears.point(point ^ 1, 39);
+            Due.is("bestTurn() to the greater of two, " + point, point ^ 3, gears.bestTurn());
+        }
         // The squares of the differences would have 0 as the best turn.
         gears = Make.withPattern(Make.gears(0, 10), 1000, 0, -10, 0, -10);
         Due.is("bestTurn() of sums: differences if not turned", 1080, differences(gears, 0));
