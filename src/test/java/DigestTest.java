@@ -73,7 +73,7 @@ public final class DigestTest {
         }
     }
 
-    private static void isDigest(SquareGears gears, int firstSlot, int secondSlot, String buffer) {
+    static void isDigest(SquareGears gears, int firstSlot, int secondSlot, String buffer) {
         hash = 3733;
         for (int what = 0; what <= 8; what++) {
             add(gears.count(what));

@@ -6,15 +6,21 @@ final class Due {
 
     private static int asked = 0;
     private static int wrong = 0;
+    /** The sentence of the document that is tested now; empty if the test names none. */
+    private static String about = "";
 
     private Due() {
+    }
+
+    static void about(String sentence) {
+        about = sentence + ": ";
     }
 
     static void is(String what, long due, long got) {
         asked++;
         if (got != due) {
             wrong++;
-            System.out.println(what + " answered " + got + ", due is " + due);
+            System.out.println(about + what + " answered " + got + ", due is " + due);
         }
     }
 
@@ -29,6 +35,11 @@ final class Due {
     /** The call throws just this class, not one below it that the machine throws, and nothing is changed. */
     static void isThrown(String what, Class<? extends RuntimeException> due, SquareGears gears, Call call) {
         long before = gears.digest();
+        throwsJust(what, due, gears, call);
+        is("digest() behind " + what, before, gears.digest());
+    }
+
+    static void throwsJust(String what, Class<? extends RuntimeException> due, SquareGears gears, Call call) {
         asked++;
         Class<?> got = null;
         try {
@@ -38,9 +49,8 @@ final class Due {
         }
         if (got != due) {
             wrong++;
-            System.out.println(what + " threw " + got + ", due is " + due);
+            System.out.println(about + what + " threw " + got + ", due is " + due);
         }
-        is("digest() behind " + what, before, gears.digest());
     }
 
     static void isOutOfBounds(String what, SquareGears gears, Call call) {
