@@ -10,6 +10,7 @@ final class EdgesOfDigest {
     static void test() {
         testStart();
         testOverflow();
+        testErrors();
         testSlots();
         testBuffer();
         testShares();
@@ -47,6 +48,20 @@ final class EdgesOfDigest {
             hash = behind(hash, 0);
         }
         return hash;
+    }
+
+    private static void testErrors() {
+        Sentence.of("Promise 25", "enough of 0, 1000 and 100000, each with 0, then with 1");
+        // Leaving out all wheels costs just these errors, so 1 less would be one wheel more.
+        isErrorOfAll(Make.gears(10, -5), 1000);
+        isErrorOfAll(Make.gears(99, -51, 7, -7), 100000);
+        isErrorOfAll(new SquareGears(), 0);
+        DigestTest.isDigest(Make.gears(1), 0, 0, "");
+    }
+
+    private static void isErrorOfAll(SquareGears gears, int error) {
+        Due.is("enough(" + error + ", 1)", 0, gears.enough(error, 1));
+        DigestTest.isDigest(gears, 0, 0, "");
     }
 
     private static void testSlots() {

@@ -24,7 +24,11 @@ final class Sentence {
     }
 
     static void areThoseOfTheDocument() throws IOException {
-        Due.about("../shared/DOC.md");
+        if (!Files.exists(DOCUMENT)) {
+            System.out.println(DOCUMENT + " is not there: its sentences are not compared with those of the tests");
+            return;
+        }
+        Due.about(DOCUMENT.toString());
         Map<String, List<String>> lines = linesByHeading();
         for (Map.Entry<String, List<String>> entry : tested.entrySet()) {
             String all = String.join("\n", lines.getOrDefault(entry.getKey(), List.of()));
