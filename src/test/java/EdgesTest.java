@@ -18,7 +18,8 @@ public final class EdgesTest {
         EdgesOfLooks.test();
         EdgesOfWouldBe.test();
         EdgesOfDigest.test();
-        Sentence.areThoseOfTheDocument();
+        Sentence.areOfTheDocument();
+        Sentence.areAllOfTheDocument();
         Due.end("EdgesTest");
     }
 
